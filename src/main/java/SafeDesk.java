@@ -113,7 +113,6 @@ public final class SafeDesk {
         valueNow = value;
         begun = 0;
         traced = 0;
-        plansAtWork = 0;
         mostPlansAtWork = 0;
         failure = doPlan(plan);
         return failure == DONE ? 1 : -10 - failure;
@@ -424,7 +423,9 @@ public final class SafeDesk {
         void enter() {
             depth++;
             entries++;
-            most = Math.max(most, depth);
+            if (depth > most) {
+                most = depth;
+            }
         }
 
         void leave() {

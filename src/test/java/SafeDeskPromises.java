@@ -387,6 +387,9 @@ public final class SafeDeskPromises {
         plan(x, 2, DO, 3, 0, DO, 3, 0);
         plan(x, 3, ADD, 1, 0);
         runIs("four deep, again and again", x, 0, 1, 8);
+        plan(x, 0, ADD, 1, 0);
+        runIs("one plan behind four", x, 0, 1, 1);
+        due("one at work", 1, x.count(2));
     }
 
     private static void promise7Seek() {
