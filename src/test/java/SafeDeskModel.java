@@ -6,7 +6,9 @@ import java.util.List;
  * its failures are Java exceptions, and its safes are left by finally.
  */
 public final class SafeDeskModel {
-    private static final int OBJECTS = 4000, CALLS = 512;
+    private static final int OBJECTS = 16000;
+    /** A look at all takes up to 190 calls, and an object promises 512. */
+    private static final int CALLS = 512 - 190;
 
     private static final class Failure extends RuntimeException {
         private static final long serialVersionUID = 1L;
@@ -215,6 +217,7 @@ public final class SafeDeskModel {
 
     private static long seed = 20261116L;
     private static int wrong = 0;
+    private static int calls = 0;
 
     private static int below(int n) {
         seed = seed * 6364136223846793005L + 1442695040888963407L;
@@ -226,6 +229,7 @@ public final class SafeDeskModel {
     }
 
     private static void due(String what, int want, int got) {
+        calls++;
         if (want != got && wrong++ < 20) {
             System.out.println(what + " answered " + got + ", due is " + want);
         }
@@ -306,7 +310,7 @@ public final class SafeDeskModel {
         } else {
             int start = someNumber();
             due("run", m.run(plan, start), x.run(plan, start));
-            compare(x, m);
+            due("value", m.value, x.value());
         }
     }
 
@@ -315,10 +319,13 @@ public final class SafeDeskModel {
         for (int i = 0; i < OBJECTS; i++) {
             SafeDesk x = new SafeDesk();
             Model m = new Model();
-            for (int call = 0; call < CALLS; call++) {
+            int last = 30 + below(CALLS - 30);
+            calls = 0;
+            while (calls < last) {
                 doCall(x, m, i % 2 == 0);
                 failures[m.failure]++;
             }
+            compare(x, m);
         }
         for (int number : new int[] {0, 1, 6, 7, 20, 21, 22, 23, 30, 40}) {
             if (failures[number] == 0) {

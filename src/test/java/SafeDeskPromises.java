@@ -1,54 +1,5 @@
 /** Each promise of the document: ordinary inputs, its edges, and wrong inputs. */
-public final class SafeDeskPromises {
-    private static final int MIN = Integer.MIN_VALUE, MAX = Integer.MAX_VALUE;
-    private static final int ENTER = 0, TRY = 1, PUT = 2, WORTH = 3, GIVE = 4, GET = 5, EMPTY = 6, DEPTH = 7,
-        DIVIDE = 8, FAIL = 9, BACK = 10, ADD = 11, DO = 12, SEEK = 13;
-    private static final int KIND = 0, COINS = 1, TURN = 2, ENTRIES = 3, MOST = 5;
-
-    private static int wrong = 0;
-
-    private static void due(String what, int want, int got) {
-        if (got != want) {
-            wrong++;
-            System.out.println(what + " answered " + got + ", due is " + want);
-        }
-    }
-
-    /** A desk whose plan 0 has these steps: kind, a, b; kind, a, b; .. */
-    private static SafeDesk planned(int... steps) {
-        SafeDesk x = new SafeDesk();
-        plan(x, 0, steps);
-        return x;
-    }
-
-    private static void plan(SafeDesk x, int plan, int... steps) {
-        x.clear(plan);
-        for (int i = 0; i < steps.length; i += 3) {
-            due("step " + i / 3 + " of plan " + plan, i / 3 + 1, x.step(plan, steps[i], steps[i + 1], steps[i + 2]));
-        }
-    }
-
-    private static void traceIs(String what, SafeDesk x, int... want) {
-        due(what + ": trace(-1)", want.length, x.trace(-1));
-        for (int k = 0; k < want.length; k++) {
-            due(what + ": trace(" + k + ")", want[k], x.trace(k));
-        }
-        due(what + ": trace behind its end", SafeDesk.BAD, x.trace(want.length));
-    }
-
-    /** KIND, COINS, TURN, ENTRIES, DEPTH, MOST. */
-    private static void safeIs(String what, SafeDesk x, int room, int... want) {
-        for (int i = 0; i < 6; i++) {
-            due(what + ": told(" + room + ", " + i + ")", want[i], x.told(room, i));
-        }
-    }
-
-    private static void runIs(String what, SafeDesk x, int value, int wantAnswer, int wantValue) {
-        due(what + ": run", wantAnswer, x.run(0, value));
-        due(what + ": value", wantValue, x.value());
-        due(what + ": count(1)", wantAnswer == 1 ? 0 : -10 - wantAnswer, x.count(1));
-    }
-
+public final class SafeDeskPromises extends DeskChecks {
     private static void promise1New() {
         SafeDesk x = new SafeDesk();
         for (int what = 0; what <= 9; what++) {
@@ -548,9 +499,6 @@ public final class SafeDeskPromises {
         promise8And9();
         promise10Told();
         promise11Count();
-        System.out.println(wrong == 0 ? "all answers are as due" : wrong + " answers are not as due");
-        if (wrong != 0) {
-            System.exit(1);
-        }
+        end();
     }
 }
