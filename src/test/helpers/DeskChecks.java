@@ -7,6 +7,8 @@ abstract class DeskChecks {
     static final int KIND = 0, COINS = 1, TURN = 2, ENTRIES = 3, DEEP = 4, MOST = 5;
     static final int SAFE = 0, TIMED = 1, VAULT = 2;
     static final int MOST_COINS = 1000000;
+    /** What a run answers; an own failure (20 .. 23) is written as a number. */
+    static final int DONE = 1, NULL = -11, DIVISION = -16, PLANS = -17, SHORT = -40, SPENT = -50;
 
     private static int wrong = 0;
     private static String sentence = "";

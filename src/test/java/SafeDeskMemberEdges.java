@@ -1,7 +1,5 @@
 /** The boundary cases of the MEMBERS of SAFES: PUT, WORTH and GIVE, each KIND of them. */
 public final class SafeDeskMemberEdges extends DeskChecks {
-    private static final int DONE = 1, NULL = -11, SHORT = -40;
-
     /** One step with room 0's safe; room 1 has none. */
     private static SafeDesk oneSafe(int safeKind, int coins, int stepKind, int b) {
         SafeDesk x = planned(stepKind, 0, b);

@@ -1,6 +1,5 @@
 /** The boundary cases of RUNS: blocks, PLANS within PLANS, THE TRACE, FAILURES, and what 200 STEPS end. */
 public final class SafeDeskRunEdges extends DeskChecks {
-    private static final int DONE = 1, NULL = -11, PLANS = -17, SPENT = -50;
     private static final int[] HELD = {1, 6, 7, 20, 21, 22, 23, 30};
 
     private static void planWithoutSteps() {
