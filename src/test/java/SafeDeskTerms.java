@@ -223,6 +223,7 @@ public final class SafeDeskTerms extends DeskChecks {
         due("the other gave", MOST_COINS - 7, x.told(1, COINS));
         runIs("-n as an int", x, MIN, SHORT, MIN);
         safeIs("-n as an int", x, 0, SAFE, 12, 0, 8, 0, 2);
+        due("-n as an int is SHORT ahead of the other", 4, x.told(1, ENTRIES));
         plan(x, 0, GIVE, 0, 0);
         runIs("to the same", x, 12, DONE, 12);
         safeIs("to the same", x, 0, SAFE, 12, 0, 11, 0, 2);
